@@ -1256,7 +1256,7 @@ public final class TenForOne {
     private static final class Filling {
         private static final int BITS = 3;
         private static final int ASKED_SHIFT = BITS * FILLED;
-        private static final int IMPOSSIBLE = Integer.MAX_VALUE;
+        private static final int IMPOSSIBLE = 0x7fffffff;
         private static final int SETS = 1 << FILLED;
 
         final int[] who = new int[FILLED];

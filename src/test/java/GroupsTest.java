@@ -172,6 +172,9 @@ final class GroupsTest {
         x.joins(3, 0, 11);
         Due.due("by the day of this spell", x.head(0, 11), 1);
         Due.due("another group", x.head(1, 11), 0);
+        TenForOne late = withMen(1);
+        late.joins(0, 0, 9999);
+        Due.due("who joined on the last day", late.head(0, 9999), 0);
         Due.due("group 2", x.head(2, 5), BAD);
         Due.due("day -1", x.head(0, -1), BAD);
     }

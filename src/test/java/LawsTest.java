@@ -91,6 +91,14 @@ final class LawsTest {
         Due.due("a fault", Due.lawsOf(x, "c0-99;"), -26);
         Due.due("the latter still holds", x.must(0, 0), 1);
         Due.due("clerk still never", x.must(1, 0), 0);
+        for (int i = 0; i < 2; i++) {
+            Due.due("clerks alone", Due.lawsOf(x, "c0-99"), 1);
+            Due.due("clerks alone: a man", x.must(0, 0), 0);
+            Due.due("clerks alone: a clerk", x.must(1, 0), 1);
+            Due.due("men alone", Due.lawsOf(x, "m0-99"), 1);
+            Due.due("men alone: a man", x.must(0, 0), 1);
+            Due.due("men alone: a clerk", x.must(1, 0), 0);
+        }
     }
 
     private static void promise13Must() {

@@ -212,6 +212,13 @@ final class PleasTest {
         x.plea(0, 9999);
         x.judge(50);
         owe("seven more", x, 0, 0, 1250, 1250, 1250, 1250, 1250, 1250, 1250, 1249);
+        x = village("rrr");
+        x.flees(1, 10);
+        x.plea(1, 101);
+        x.judge(50);
+        owe("the first answers", x, 0, 51, 0, 50);
+        x.dies(2, 60);
+        owe("and bears what the dead owed", x, 0, 101, 0, 0);
         x = village("rrp");
         x.flees(0, 10);
         x.plea(0, 100);

@@ -54,6 +54,8 @@ final class RollsTest {
         Due.due("no name", x.roll(0, 0, 3, 2), NOT);
         Due.due("a new row", x.sheet(3, 2, 20), 20);
         Due.due("is empty", x.roll(0, 0, 3, 2), 0);
+        x.joins(x.person(0, -2000, 0, 0, false, -1), 0, 5);
+        Due.due("its items are 0", x.roll(0, 5, 3, 2), 0);
         Due.due("another lane", x.sheet(3, 0, 5), 5);
         Due.due("is another", x.item(3, 2, 0, 0), CAST);
     }
