@@ -26,16 +26,14 @@ final class Edges1PeopleTest {
 
     /** "An object is used for at most 512 calls": till then none is refused for want of room. */
     private static void flightsTillTheLastCall() {
-        TenForOne x = new TenForOne();
-        x.house(0);
+        TenForOne x = Villages.at(0);
         x.person(0, -2000, 0, 0, false, -1);
         int right = 0;
         for (int i = 0; i < 255; i++) {
             right += x.flees(0, 2 * i) == 1 && x.back(0, 2 * i + 1) == 1 ? 1 : 0;
         }
         Due.due("flights within 512 calls", right, 255);
-        x = new TenForOne();
-        x.house(0);
+        x = Villages.at(0);
         x.person(0, -2000, 0, 0, false, -1);
         for (int i = 0; i < 200; i++) {
             x.flees(0, 2 * i);
@@ -80,10 +78,9 @@ final class Edges1PeopleTest {
         Twins.alike("another object", Twins.made(x -> { }), new TenForOne());
     }
 
-    /** "perhaps a FATHER (a MAN, CLERK, CHIEF's kin who came ahead, BORN 1200 DAYS ahead or more)": no more is asked. */
+    /** "a FATHER (a MAN, CLERK, CHIEF's kin who came ahead, BORN 1200 DAYS ahead or more)": no more is asked. */
     private static void fathers() {
-        TenForOne x = new TenForOne();
-        x.house(0);
+        TenForOne x = Villages.at(0);
         x.person(0, -9999, 0, 0, false, -1);
         x.dies(0, 0);
         Due.due("a father long dead", x.person(0, 9999, 0, 0, false, 0), 1);
@@ -99,8 +96,7 @@ final class Edges1PeopleTest {
 
     /** "KIN are two, if one is the other's FATHER, or they have one FATHER": no name, no house makes them so. */
     private static void kinOfAFatherOnly() {
-        TenForOne x = new TenForOne();
-        x.house(0);
+        TenForOne x = Villages.at(0);
         x.person(0, -9000, 7, 0, false, -1);
         x.person(2, -9000, 7, 0, false, -1);
         x.person(3, -5000, 7, 0, false, 0);
@@ -118,8 +114,7 @@ final class Edges1PeopleTest {
 
     /** "a YEAR has 100", "Divisions are cut down". */
     private static void agesInTheYear() {
-        TenForOne x = new TenForOne();
-        x.house(0);
+        TenForOne x = Villages.at(0);
         x.person(0, -1, 0, 0, false, -1);
         x.person(0, 9999, 0, 0, false, -1);
         Due.due("a day old", x.age(0, 0), 0);
@@ -135,8 +130,7 @@ final class Edges1PeopleTest {
 
     /** DAYS are 0 .. 9999: what happens on the first and the last. */
     private static void firstAndLastDays() {
-        TenForOne x = new TenForOne();
-        x.house(0);
+        TenForOne x = Villages.at(0);
         Villages.men(x, 4);
         Due.due("flees on day 0", x.flees(0, 0), 1);
         Due.due("there on day 0", x.there(0, 0), 0);
@@ -157,8 +151,7 @@ final class Edges1PeopleTest {
 
     /** "not fled (on that DAY or ahead) without being BACK since (on that DAY or ahead)". */
     private static void thereBetweenFlights() {
-        TenForOne x = new TenForOne();
-        x.house(0);
+        TenForOne x = Villages.at(0);
         Villages.men(x, 1);
         x.flees(0, 10);
         x.back(0, 12);
@@ -216,8 +209,7 @@ final class Edges1PeopleTest {
     private static void kindsNotTold() {
         String[] each = {"m0-99", "c0-99", "k0-99"};
         for (int told = 0; told < 3; told++) {
-            TenForOne x = new TenForOne();
-            x.house(0);
+            TenForOne x = Villages.at(0);
             for (int kind = 0; kind < 3; kind++) {
                 x.person(kind, -2000, 0, 0, false, -1);
             }
@@ -236,9 +228,7 @@ final class Edges1PeopleTest {
     }
 
     private static TenForOne withLodger() {
-        TenForOne x = new TenForOne();
-        x.house(0);
-        x.group(0);
+        TenForOne x = Villages.at(0, 0);
         Villages.men(x, 1);
         x.joins(0, 0, 0);
         x.person(3, -2000, 0, 0, false, -1);
@@ -282,8 +272,7 @@ final class Edges1PeopleTest {
 
     /** "an AGE, -, an AGE (0 .. 99, the second no less)": both are of an AGE by the LAWS, the next are not. */
     private static void agesBothEndsHold() {
-        TenForOne x = new TenForOne();
-        x.house(0);
+        TenForOne x = Villages.at(0);
         int[] ages = {0, 1, 12, 13, 98, 99};
         for (int age : ages) {
             x.person(0, -100 * age - 99, 0, 0, false, -1);
@@ -303,10 +292,16 @@ final class Edges1PeopleTest {
 
     /** "the place of the first byte (behind blanks) that can't stand there". */
     private static void theFirstByteThatCannotStand() {
-        String[] texts = {"m1-2;  x", "m  ;", "m1  ;", "m1-  ;", "m1-2  c", " m1-2 ; c1-2 ; k1-2 ; m1-2 ; s1", "s  0", "s1  ;  ",
-            "m1-2;m", "k", "c5", "c5-4", "c 50 - 49", "m0-100", "m 00100-1", "s9 9", "-", "9", ";m1-2", "m1-2:", "M", "S1", "~"};
-        int[] places = {7, 3, 4, 5, 6, 27, 3, 7,
-            6, 1, 2, 3, 7, 3, 2, 3, 0, 0, 0, 4, 0, 0, 0};
+        String[] texts = {
+            "m1-2;  x", "m  ;", "m1  ;", "m1-  ;", "m1-2  c", " m1-2 ; c1-2 ; k1-2 ; m1-2 ; s1", "s  0", "s1  ;  ",
+            "m1-2;m", "k", "c5", "c5-4", "c 50 - 49", "m0-100", "m 00100-1", "s9 9", "-", "9", ";m1-2", "m1-2:",
+            "M", "S1", "~"
+        };
+        int[] places = {
+            7, 3, 4, 5, 6, 27, 3, 7,
+            6, 1, 2, 3, 7, 3, 2, 3, 0, 0, 0, 4,
+            0, 0, 0
+        };
         Due.due("the rows of the test are even", texts.length, places.length);
         for (int i = 0; i < texts.length; i++) {
             Due.due("laws of '" + texts[i] + "'", Due.lawsOf(new TenForOne(), texts[i]), -20 - places[i]);

@@ -281,10 +281,7 @@ final class Edges2GroupsTest {
 
     /** "Of like ones the first by the GROUPS of the least numbered one, and so on." */
     private static void likeWaysAndSoOn() {
-        TenForOne x = new TenForOne();
-        x.house(50);
-        x.group(40);
-        x.group(60);
+        TenForOne x = Villages.at(50, 40, 60);
         for (int i = 0; i < 8; i++) {
             x.person(0, -2000, 0, 0, false, -1);
             x.joins(i, 0, 0);
@@ -308,10 +305,7 @@ final class Edges2GroupsTest {
         Due.due("the least goes ahead of the first by groups", x.whole(0), 15 + 14);
         Due.due("the least numbered", x.came(9), 0);
         Due.due("the other, for whom it is near", x.came(10), 1);
-        x = new TenForOne();
-        x.house(50);
-        x.group(50);
-        x.group(50);
+        x = Villages.at(50, 50, 50);
         for (int i = 0; i < 3; i++) {
             x.person(0, -2000, 0, 0, i != 2, -1);
         }
@@ -323,19 +317,13 @@ final class Edges2GroupsTest {
 
     /** "the difference of the LANES of his HOUSE and the GROUP, and 5": the most and the least that can be. */
     private static void farthest() {
-        TenForOne x = new TenForOne();
-        x.house(0);
-        x.group(99);
+        TenForOne x = Villages.at(0, 99);
         Villages.men(x, 6);
         Due.due("six go all the way", x.whole(0), 6 * 104);
-        x = new TenForOne();
-        x.house(99);
-        x.group(0);
+        x = Villages.at(99, 0);
         Villages.men(x, 1);
         Due.due("one, the other way", x.whole(0), 104);
-        x = new TenForOne();
-        x.house(33);
-        x.group(33);
+        x = Villages.at(33, 33);
         x.person(0, -5000, 0, 0, false, -1);
         x.person(0, -2000, 0, 0, false, 0);
         x.joins(0, 0, 0);
@@ -349,9 +337,7 @@ final class Edges2GroupsTest {
         Villages.men(x, 1);
         Due.due("the tenth", x.whole(5), 5);
         Due.due("ten", x.members(0, 5), 10);
-        x = new TenForOne();
-        x.house(50);
-        x.group(50);
+        x = Villages.at(50, 50);
         Villages.men(x, 10);
         for (int i = 0; i < 10; i++) {
             x.joins(i, 0, 5);
@@ -382,9 +368,7 @@ final class Edges2GroupsTest {
         Due.due("ten, and six who go by", x.whole(5), 30);
         Due.due("ten still", x.members(0, 5), 10);
         Due.due("six in the second", x.members(1, 5), 6);
-        x = new TenForOne();
-        x.house(50);
-        x.group(50);
+        x = Villages.at(50, 50);
         Villages.men(x, 5);
         for (int i = 0; i < 5; i++) {
             x.joins(i, 0, 5);
@@ -414,9 +398,7 @@ final class Edges2GroupsTest {
         Due.due("on the day of the rich one's death", x.whole(10), 5);
         x.person(0, -2000, 0, 0, true, -1);
         Due.due("the rich one is dead", x.whole(11), 104);
-        x = new TenForOne();
-        x.house(0);
-        x.group(0);
+        x = Villages.at(0, 0);
         x.person(0, -2000, 0, 0, true, -1);
         x.joins(0, 0, 0);
         Due.due("a poor group, and nobody comes", x.whole(0), 0);
@@ -427,10 +409,7 @@ final class Edges2GroupsTest {
     }
 
     private static void poorOfAnEarlierTime() {
-        TenForOne x = new TenForOne();
-        x.house(0);
-        x.group(0);
-        x.group(10);
+        TenForOne x = Villages.at(0, 0, 10);
         x.person(0, -2000, 0, 0, false, -1);
         x.person(0, -2000, 0, 0, true, -1);
         Due.due("a rich one and a poor one", x.whole(0), 10);
@@ -444,9 +423,7 @@ final class Edges2GroupsTest {
         x.dies(2, 0);
         x.person(0, -2000, 0, 0, false, -1);
         Due.due("a rich one alone", x.whole(11), 5);
-        x = new TenForOne();
-        x.house(0);
-        x.group(0);
+        x = Villages.at(0, 0);
         for (int i = 0; i < 6; i++) {
             x.person(0, -2000, 0, 0, i < 5, -1);
         }
@@ -458,40 +435,31 @@ final class Edges2GroupsTest {
         Due.due("a rich one, where a poor one was", x.whole(1), 5);
     }
 
-    /** "5, if he has no KIN among its MEMBERS (of that DAY, ahead of all that)". */
-    private static void kinAhead() {
-        TenForOne x = new TenForOne();
-        x.house(50);
-        x.group(45);
-        x.group(59);
+    /** House 0 at lane 50; a father in the second of two groups, and his son in none. */
+    private static TenForOne fatherInTheSecond(int firstLane, int secondLane) {
+        TenForOne x = Villages.at(50, firstLane, secondLane);
         x.person(0, -5000, 0, 0, false, -1);
         x.person(0, -2000, 0, 0, false, 0);
         x.joins(0, 1, 0);
+        return x;
+    }
+
+    /** "5, if he has no KIN among its MEMBERS (of that DAY, ahead of all that)". */
+    private static void kinAhead() {
+        TenForOne x = fatherInTheSecond(45, 59);
         x.leaves(0, 20);
         Due.due("kin on the day ahead of leaving", x.whole(19), 9);
         Due.due("to his kin", x.came(1), 1);
-        x = new TenForOne();
-        x.house(50);
-        x.group(45);
-        x.group(60);
-        x.person(0, -5000, 0, 0, false, -1);
-        x.person(0, -2000, 0, 0, false, 0);
-        x.joins(0, 1, 0);
+        x = fatherInTheSecond(45, 60);
         Due.due("like ways, with kin and without", x.whole(0), 10);
         Due.due("the first group", x.came(1), 0);
-        x = new TenForOne();
-        x.house(50);
-        x.group(45);
-        x.group(59);
-        x.person(0, -5000, 0, 0, false, -1);
-        x.person(0, -2000, 0, 0, false, 0);
-        x.joins(0, 1, 0);
+        x = fatherInTheSecond(45, 59);
         x.dies(0, 20);
         Due.due("kin who is dead", x.whole(21), 10);
         Due.due("to the near group", x.came(1), 0);
     }
 
-    /** "each UNSWORN MAN, CLERK (not CHIEF's kin; none of whom a spell goes on, or ends behind that DAY; 6 at most)". */
+    /** "each UNSWORN MAN, CLERK (not CHIEF's kin; none of whom a spell goes on, or ends behind that DAY ...)". */
     private static void whoMayCome() {
         TenForOne x = withGroup(0);
         x.group(50);

@@ -21,17 +21,6 @@ final class Edges4RollsTest {
         Due.end();
     }
 
-    /** Group 0 of people with these names, who joined on day 5; group 1 of nobody. */
-    private static TenForOne village(int... names) {
-        TenForOne x = new TenForOne();
-        x.house(50);
-        Villages.groups(x, 2);
-        for (int name : names) {
-            x.joins(x.person(0, -2000, name, 0, false, -1), 0, 5);
-        }
-        return x;
-    }
-
     private static int rollOf(TenForOne x, int... names) {
         x.sheet(3, 0, names.length);
         for (int i = 0; i < names.length; i++) {
@@ -43,7 +32,7 @@ final class Edges4RollsTest {
     /** "SHEETS 0 .. 3: nothing (at first)". */
     private static void nothingAtFirst() {
         for (int sheet = 0; sheet < 4; sheet++) {
-            TenForOne x = village(1);
+            TenForOne x = Villages.ofNames(1);
             Due.due("drop(" + sheet + ")", x.drop(sheet), NULL);
             for (int lane = 0; lane < 3; lane++) {
                 Due.due("item of " + sheet + " as " + lane, x.item(sheet, lane, 0, 0), NULL);
@@ -56,7 +45,7 @@ final class Edges4RollsTest {
     /** "a row of a LANE: 0 bytes, 1 shorts, 2 ints, of 0 to 20 items". */
     private static void emptyRowAndFullRow() {
         for (int lane = 0; lane < 3; lane++) {
-            TenForOne x = village(7, 7);
+            TenForOne x = Villages.ofNames(7, 7);
             Due.due("no items of lane " + lane, x.sheet(0, lane, 0), 0);
             Due.due("no first item", x.item(0, lane, 0, 7), INDEX);
             Due.due("an empty roll", x.roll(0, 5, 0, lane), 2);
@@ -80,7 +69,7 @@ final class Edges4RollsTest {
 
     /** "A SHEET holds a new row of a LANE": of noughts, whatever was there. */
     private static void aNewRowIsNew() {
-        TenForOne x = village(0, 0);
+        TenForOne x = Villages.ofNames(0, 0);
         x.sheet(0, 2, 20);
         for (int i = 0; i < 20; i++) {
             x.item(0, 2, i, 40);
@@ -103,7 +92,7 @@ final class Edges4RollsTest {
     }
 
     private static void sheetsApart() {
-        TenForOne x = village(0, 1, 2, 3);
+        TenForOne x = Villages.ofNames(0, 1, 2, 3);
         for (int sheet = 0; sheet < 4; sheet++) {
             x.sheet(sheet, 2, 1);
         }
@@ -136,7 +125,7 @@ final class Edges4RollsTest {
         };
         for (int lane = 0; lane < 3; lane++) {
             for (int i = 0; i < values.length; i++) {
-                TenForOne x = village(7);
+                TenForOne x = Villages.ofNames(7);
                 x.sheet(0, lane, 1);
                 Due.due("item takes any v", x.item(0, lane, 0, values[i]), 1);
                 Due.due("lane " + lane + ", v " + values[i], x.roll(0, 5, 0, lane), due[lane][i]);
@@ -149,7 +138,7 @@ final class Edges4RollsTest {
         int[][] due = {{-1, NOT}, {0, 1}, {1, 2}, {38, 2}, {39, 1}, {40, NOT}};
         for (int lane = 0; lane < 3; lane++) {
             for (int[] row : due) {
-                TenForOne x = village(0, 39);
+                TenForOne x = Villages.ofNames(0, 39);
                 x.sheet(0, lane, 1);
                 x.item(0, lane, 0, row[0]);
                 Due.due("lane " + lane + ", name " + row[0], x.roll(0, 5, 0, lane), row[1]);
@@ -160,7 +149,7 @@ final class Edges4RollsTest {
     /** "THE ROLL ... is all of a SHEET": its first and its last item too, and no more than it has. */
     private static void allOfTheSheet() {
         for (int at : new int[] {0, 1, 10, 18, 19}) {
-            TenForOne x = village(5, 6);
+            TenForOne x = Villages.ofNames(5, 6);
             x.sheet(1, 1, 20);
             x.item(1, 1, at, 5);
             Due.due("name 5 at " + at, x.roll(0, 5, 1, 1), 1);
@@ -169,7 +158,7 @@ final class Edges4RollsTest {
             x.item(1, 1, at, -1);
             Due.due("no name at " + at, x.roll(0, 5, 1, 1), NOT);
         }
-        TenForOne x = village(5, 5, 5, 5, 5, 5, 5, 5, 5, 5);
+        TenForOne x = Villages.ofNames(5, 5, 5, 5, 5, 5, 5, 5, 5, 5);
         x.sheet(1, 1, 20);
         for (int i = 0; i < 20; i++) {
             x.item(1, 1, i, 5);
@@ -186,7 +175,7 @@ final class Edges4RollsTest {
 
     /** "less how often the ROLL has it (below 0: 0)": what is too much of one name makes up for no other. */
     private static void belowNoughtIsNought() {
-        TenForOne x = village(1, 2);
+        TenForOne x = Villages.ofNames(1, 2);
         Due.due("two too many of one", rollOf(x, 1, 1, 1), 1);
         Due.due("none of it", x.leftOut(1), 0);
         Due.due("one of the other", x.leftOut(2), 1);
@@ -194,11 +183,11 @@ final class Edges4RollsTest {
         Due.due("none of these", x.leftOut(39), 0);
     }
 
-    /** "SURELY left out ..., if the ROLL has that NAME not at all; SURELY not, if as often as there are such MEMBERS, or more." */
+    /** "SURELY left out ..., if ... not at all; SURELY not, if as often as there are such MEMBERS, or more." */
     private static void surelyAndSurelyNot() {
         int[] due = {1, NOT, NOT, 0, 0};
         for (int listed = 0; listed <= 4; listed++) {
-            TenForOne x = village(9, 9, 9);
+            TenForOne x = Villages.ofNames(9, 9, 9);
             int[] names = new int[listed];
             java.util.Arrays.fill(names, 9);
             Due.due(listed + " of three", rollOf(x, names), Math.max(0, 3 - listed));
@@ -206,7 +195,7 @@ final class Edges4RollsTest {
                 Due.due(listed + " of three: sure(" + who + ")", x.sure(who), due[listed]);
             }
         }
-        TenForOne x = village(9);
+        TenForOne x = Villages.ofNames(9);
         rollOf(x, 8);
         Due.due("one alone, not on it", x.sure(0), 1);
         rollOf(x, 8, 9);
@@ -215,7 +204,7 @@ final class Edges4RollsTest {
 
     /** "how many MEMBERS of it have that NAME": of that GROUP, on that DAY. */
     private static void membersOfThatDay() {
-        TenForOne x = village(1, 1, 1, 1);
+        TenForOne x = Villages.ofNames(1, 1, 1, 1);
         x.person(0, -2000, 1, 0, false, -1);
         x.joins(4, 1, 5);
         x.flees(1, 10);
@@ -238,7 +227,7 @@ final class Edges4RollsTest {
 
     /** "Of THE ROLL latest told ... (as of then)". */
     private static void asOfThen() {
-        TenForOne x = village(1, 1);
+        TenForOne x = Villages.ofNames(1, 1);
         Due.due("one of two", rollOf(x, 1), 1);
         x.item(3, 0, 0, 2);
         Due.due("an item that came later", x.sure(0), NOT);

@@ -75,8 +75,7 @@ final class LawsTest {
     }
 
     private static void promise12Keeps() {
-        TenForOne x = new TenForOne();
-        x.house(0);
+        TenForOne x = Villages.at(0);
         x.person(0, -2000, 0, 0, false, -1);
         x.person(1, -2000, 0, 0, false, -1);
         Due.due("a fault late", Due.lawsOf(x, "c0-99;m30-40;x"), -33);
@@ -102,8 +101,7 @@ final class LawsTest {
     }
 
     private static void promise13Must() {
-        TenForOne x = new TenForOne();
-        x.house(0);
+        TenForOne x = Villages.at(0);
         x.person(0, 0, 0, 0, false, -1);
         x.person(2, 0, 0, 0, false, -1);
         x.person(3, 0, 0, 0, false, -1);

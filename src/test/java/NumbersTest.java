@@ -31,7 +31,8 @@ final class NumbersTest {
     }
 
     /** From low to high is taken, and answered as told at both ends; all else is BAD. */
-    private static void range(String told, Twins.Making making, int low, int high, int atLow, int atHigh, Numbered call) {
+    private static void range(String told, Twins.Making making, int low, int high, int atLow, int atHigh,
+            Numbered call) {
         Due.due(told + " " + low, call.on(Twins.made(making), low), atLow);
         Due.due(told + " " + high, call.on(Twins.made(making), high), atHigh);
         for (int wrong : new int[] {low - 1, high + 1, LEAST, MOST}) {

@@ -18,8 +18,7 @@ final class PeopleTest {
     }
 
     private static TenForOne withHouse() {
-        TenForOne x = new TenForOne();
-        x.house(0);
+        TenForOne x = Villages.at(0);
         return x;
     }
 

@@ -19,26 +19,8 @@ final class PleasTest {
         Due.end();
     }
 
-    /** Group 0 of all, who joined on day 5; of a letter r one is rich, of p poor. */
-    private static TenForOne village(String wealth) {
-        TenForOne x = new TenForOne();
-        x.house(0);
-        x.group(0);
-        x.group(50);
-        for (char sign : wealth.toCharArray()) {
-            x.joins(x.person(0, -2000, 0, 0, sign == 'p', -1), 0, 5);
-        }
-        return x;
-    }
-
-    private static void owe(String told, TenForOne x, int plea, int... due) {
-        for (int who = 0; who < due.length; who++) {
-            Due.due(told + ": owes(" + who + ", " + plea + ")", x.owes(who, plea), due[who]);
-        }
-    }
-
     private static void promise27Refusals() {
-        TenForOne x = village("rr");
+        TenForOne x = Villages.ofWealth("rr");
         Due.due("who 2", x.plea(2, 10), BAD);
         Due.due("who -1", x.plea(-1, 10), BAD);
         Due.due("fine 0", x.plea(0, 0), BAD);
@@ -54,10 +36,10 @@ final class PleasTest {
         x.flees(1, 8);
         Due.due("a member the day ahead, who left", x.plea(1, 1), 1);
         Due.due("nobody is left to answer there, but a group is", x.about(1, 4), 0);
-        x = village("r");
+        x = Villages.ofWealth("r");
         x.flees(0, 0);
         Due.due("fled on day 0", x.plea(0, 1), NOT);
-        x = village("r");
+        x = Villages.ofWealth("r");
         x.leaves(0, 9);
         x.flees(0, 10);
         Due.due("left two days ahead", x.plea(0, 1), NOT);
@@ -65,7 +47,7 @@ final class PleasTest {
     }
 
     private static void promise27WhichFlight() {
-        TenForOne x = village("rrr");
+        TenForOne x = Villages.ofWealth("rrr");
         x.flees(0, 10);
         x.back(0, 20);
         Due.due("one who was away", x.plea(0, 5), 0);
@@ -82,7 +64,7 @@ final class PleasTest {
     }
 
     private static void promise27Full() {
-        TenForOne x = village("rr");
+        TenForOne x = Villages.ofWealth("rr");
         for (int i = 0; i < 20; i++) {
             x.flees(0, 10 + 2 * i);
             Due.due("plea " + i, x.plea(0, 1), i);
@@ -96,7 +78,7 @@ final class PleasTest {
     }
 
     private static void promise27Stranger() {
-        TenForOne x = village("rp");
+        TenForOne x = Villages.ofWealth("rp");
         x.person(3, -2000, 0, 0, false, -1);
         x.stay(2, 0, 10, 30);
         x.flees(2, 12);
@@ -115,7 +97,7 @@ final class PleasTest {
     }
 
     private static void promise28About() {
-        TenForOne x = village("rrrr");
+        TenForOne x = Villages.ofWealth("rrrr");
         x.person(0, -2000, 0, 0, false, -1);
         x.joins(4, 1, 5);
         x.flees(3, 40);
@@ -140,7 +122,7 @@ final class PleasTest {
     }
 
     private static void promise28And29Brought() {
-        TenForOne x = village("rrrr");
+        TenForOne x = Villages.ofWealth("rrrr");
         x.flees(0, 10);
         x.flees(1, 10);
         x.plea(0, 10);
@@ -167,17 +149,17 @@ final class PleasTest {
     }
 
     private static void promise29Judge() {
-        TenForOne x = village("rrpp");
+        TenForOne x = Villages.ofWealth("rrpp");
         x.flees(0, 10);
         x.plea(0, 70);
         Due.due("judge(-1)", x.judge(-1), BAD);
         Due.due("judge(10000)", x.judge(10000), BAD);
         Due.due("30 days behind", x.judge(40), 0);
-        owe("30 days", x, 0, 0, 0, 0, 0);
+        Villages.owe("30 days", x, 0, 0, 0, 0, 0);
         Due.due("31 days behind", x.judge(41), 1);
-        owe("31 days", x, 0, 0, 42, 14, 14);
+        Villages.owe("31 days", x, 0, 0, 42, 14, 14);
         Due.due("once", x.judge(9999), 0);
-        owe("once", x, 0, 0, 42, 14, 14);
+        Villages.owe("once", x, 0, 0, 42, 14, 14);
         x.flees(1, 50);
         x.flees(2, 52);
         x.plea(2, 9);
@@ -185,47 +167,32 @@ final class PleasTest {
         Due.due("one of two", x.judge(81), 1);
         Due.due("the first waits", x.about(1, 5), 0);
         Due.due("the second is parted", x.about(2, 5), 2);
-        owe("away ones answer too, if they were there", x, 2, 0, 0, 10, 10);
+        Villages.owe("away ones answer too, if they were there", x, 2, 0, 0, 10, 10);
         Due.due("the first then", x.judge(200), 1);
-        owe("alone", x, 1, 0, 0, 0, 9);
+        Villages.owe("alone", x, 1, 0, 0, 0, 9);
     }
 
     private static void promise29Rests() {
-        TenForOne x = village("rrrr");
-        x.flees(0, 10);
-        x.plea(0, 100);
-        x.judge(50);
-        owe("of like rests the least number", x, 0, 0, 34, 33, 33);
-        x = village("rprp");
-        x.flees(0, 10);
-        x.plea(0, 9);
-        x.judge(50);
+        TenForOne x = Villages.judged("rrrr", 0, 100);
+        Villages.owe("of like rests the least number", x, 0, 0, 34, 33, 33);
+        x = Villages.judged("rprp", 0, 9);
         // 9/5, 27/5, 9/5: 1 rest 4, 5 rest 2, 1 rest 4.
-        owe("the greatest rests", x, 0, 0, 2, 5, 2);
-        x = village("rppr");
-        x.flees(0, 10);
-        x.plea(0, 1);
-        x.judge(50);
-        owe("one", x, 0, 0, 0, 0, 1);
-        x = village("rpppppppp");
-        x.flees(0, 10);
-        x.plea(0, 9999);
-        x.judge(50);
-        owe("seven more", x, 0, 0, 1250, 1250, 1250, 1250, 1250, 1250, 1250, 1249);
-        x = village("rrr");
-        x.flees(1, 10);
-        x.plea(1, 101);
-        x.judge(50);
-        owe("the first answers", x, 0, 51, 0, 50);
+        Villages.owe("the greatest rests", x, 0, 0, 2, 5, 2);
+        x = Villages.judged("rppr", 0, 1);
+        Villages.owe("one", x, 0, 0, 0, 0, 1);
+        x = Villages.judged("rpppppppp", 0, 9999);
+        Villages.owe("seven more", x, 0, 0, 1250, 1250, 1250, 1250, 1250, 1250, 1250, 1249);
+        x = Villages.judged("rrr", 1, 101);
+        Villages.owe("the first answers", x, 0, 51, 0, 50);
         x.dies(2, 60);
-        owe("and bears what the dead owed", x, 0, 101, 0, 0);
-        x = village("rrp");
+        Villages.owe("and bears what the dead owed", x, 0, 101, 0, 0);
+        x = Villages.ofWealth("rrp");
         x.flees(0, 10);
         x.plea(0, 100);
         x.dies(1, 20);
         x.judge(50);
-        owe("the dead have no part", x, 0, 0, 0, 100);
-        x = village("rrp");
+        Villages.owe("the dead have no part", x, 0, 0, 0, 100);
+        x = Villages.ofWealth("rrp");
         x.flees(0, 10);
         x.plea(0, 100);
         x.dies(1, 20);
@@ -237,35 +204,32 @@ final class PleasTest {
     }
 
     private static void promise6And30Deaths() {
-        TenForOne x = village("rrpp");
-        x.flees(0, 10);
-        x.plea(0, 70);
-        x.judge(50);
+        TenForOne x = Villages.judged("rrpp", 0, 70);
         x.pays(1, 40);
         Due.due("owes 2", x.dies(1, 60), 2);
-        owe("parted anew", x, 0, 0, 0, 15, 15);
+        Villages.owe("parted anew", x, 0, 0, 0, 15, 15);
         Due.due("owes 15", x.dies(3, 61), 15);
-        owe("all to one", x, 0, 0, 0, 30, 0);
+        Villages.owe("all to one", x, 0, 0, 0, 30, 0);
         Due.due("nothing is lost", x.count(6), 0);
         Due.due("the last", x.dies(2, 62), 30);
-        owe("none", x, 0, 0, 0, 0, 0);
+        Villages.owe("none", x, 0, 0, 0, 0, 0);
         Due.due("lost", x.count(6), 30);
-        x = village("rrrr");
+        x = Villages.ofWealth("rrrr");
         x.flees(0, 10);
         x.flees(1, 20);
         x.plea(0, 10);
         x.plea(1, 11);
         x.judge(100);
-        owe("plea 0", x, 0, 0, 4, 3, 3);
-        owe("plea 1", x, 1, 0, 0, 6, 5);
+        Villages.owe("plea 0", x, 0, 0, 4, 3, 3);
+        Villages.owe("plea 1", x, 1, 0, 0, 6, 5);
         Due.due("of two pleas", x.dies(2, 101), 9);
-        owe("plea 0 anew", x, 0, 0, 6, 0, 4);
-        owe("plea 1 anew", x, 1, 0, 0, 0, 11);
+        Villages.owe("plea 0 anew", x, 0, 0, 6, 0, 4);
+        Villages.owe("plea 1 anew", x, 1, 0, 0, 0, 11);
         Due.due("the one who fled owes nothing", x.dies(0, 101), 0);
     }
 
     private static void promise30Owes() {
-        TenForOne x = village("rr");
+        TenForOne x = Villages.ofWealth("rr");
         Due.due("of all, no plea", x.owes(0, -1), 0);
         Due.due("plea 0", x.owes(0, 0), BAD);
         Due.due("plea -2", x.owes(0, -2), BAD);
@@ -276,16 +240,16 @@ final class PleasTest {
             x.plea(0, 10 + i);
             x.back(0, 45 + 40 * i);
         }
-        owe("not judged", x, -1, 0, 0);
+        Villages.owe("not judged", x, -1, 0, 0);
         Due.due("judge", x.judge(200), 2);
-        owe("plea 0", x, 0, 0, 10);
-        owe("plea 1", x, 1, 0, 11);
-        owe("of all", x, -1, 0, 21);
+        Villages.owe("plea 0", x, 0, 0, 10);
+        Villages.owe("plea 1", x, 1, 0, 11);
+        Villages.owe("of all", x, -1, 0, 21);
         Due.due("plea 2", x.owes(0, 2), BAD);
     }
 
     private static void promise31Pays() {
-        TenForOne x = village("rr");
+        TenForOne x = Villages.ofWealth("rr");
         for (int i = 0; i < 3; i++) {
             x.flees(0, 10 + 40 * i);
             x.plea(0, 10);
@@ -313,7 +277,7 @@ final class PleasTest {
     }
 
     private static void promise32Borne() {
-        TenForOne x = village("rrrr");
+        TenForOne x = Villages.ofWealth("rrrr");
         x.group(99);
         x.joins(x.person(0, -2000, 0, 0, false, -1), 1, 5);
         x.flees(0, 10);
@@ -356,20 +320,14 @@ final class PleasTest {
 
     /** By heads 5 and 0: the middle is 2 and a half, cut down 2, and twice that 4. */
     private static void middleIsCutDown() {
-        TenForOne x = village("rr");
-        x.flees(0, 10);
-        x.plea(0, 5);
-        x.judge(50);
+        TenForOne x = Villages.judged("rr", 0, 5);
         Due.due("5 is more than twice 2", x.borne(0, 20, 2), 1);
-        x = village("rr");
-        x.flees(0, 10);
-        x.plea(0, 6);
-        x.judge(50);
+        x = Villages.judged("rr", 0, 6);
         Due.due("6 is not more than twice 3", x.borne(0, 20, 2), 0);
     }
 
     private static void promise33Count() {
-        TenForOne x = village("rrr");
+        TenForOne x = Villages.ofWealth("rrr");
         x.person(3, -2000, 0, 0, false, -1);
         x.fair(1, 2);
         x.fair(1, 2);

@@ -443,7 +443,8 @@ final class RefusalsTest {
         busy("roll: ints as shorts", CAST, x -> x.roll(1, 8, 2, 1));
         busy("roll: no shorts as ints", CAST, x -> x.roll(1, 8, 3, 2));
         Twins.refused("roll: the last item is no name", noName, NOT, x -> x.roll(1, 8, 0, 0));
-        Twins.refused("roll: the first item is no name", busyAnd(x -> x.item(0, 0, 0, -1)), NOT, x -> x.roll(1, 8, 0, 0));
+        Twins.refused("roll: the first item is no name", busyAnd(x -> x.item(0, 0, 0, -1)), NOT,
+            x -> x.roll(1, 8, 0, 0));
         Twins.refused("roll: the twentieth item is no name", busyAnd(x -> x.item(2, 2, 19, 40)), NOT,
             x -> x.roll(1, 8, 2, 2));
         busy("roll: BAD ahead of NULL, group", BAD, x -> x.roll(2, 8, 1, 0));

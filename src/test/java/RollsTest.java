@@ -14,18 +14,6 @@ final class RollsTest {
         Due.end();
     }
 
-    /** Group 0 of people with these names, who joined on day 5. */
-    private static TenForOne village(int... names) {
-        TenForOne x = new TenForOne();
-        x.house(0);
-        x.group(0);
-        x.group(1);
-        for (int name : names) {
-            x.joins(x.person(0, -2000, name, 0, false, -1), 0, 5);
-        }
-        return x;
-    }
-
     private static int rollOf(TenForOne x, int day, int... names) {
         x.sheet(3, 2, names.length);
         for (int i = 0; i < names.length; i++) {
@@ -35,7 +23,7 @@ final class RollsTest {
     }
 
     private static void promise34Sheet() {
-        TenForOne x = village();
+        TenForOne x = Villages.ofNames();
         Due.due("sheet -1", x.sheet(-1, 0, 1), BAD);
         Due.due("sheet 4", x.sheet(4, 0, 1), BAD);
         Due.due("lane -1", x.sheet(0, -1, 1), BAD);
@@ -61,7 +49,7 @@ final class RollsTest {
     }
 
     private static void promise35Drop() {
-        TenForOne x = village();
+        TenForOne x = Villages.ofNames();
         Due.due("drop(-1)", x.drop(-1), BAD);
         Due.due("drop(4)", x.drop(4), BAD);
         Due.due("drop(2)", x.drop(2), NULL);
@@ -74,7 +62,7 @@ final class RollsTest {
     }
 
     private static void promise36Item() {
-        TenForOne x = village();
+        TenForOne x = Villages.ofNames();
         Due.due("nothing", x.item(0, 0, 0, 0), NULL);
         Due.due("NULL ahead of INDEX", x.item(0, 0, -1, 0), NULL);
         x.sheet(0, 1, 3);
@@ -102,20 +90,20 @@ final class RollsTest {
         };
         for (int lane = 0; lane < 3; lane++) {
             for (int i = 0; i < values.length; i++) {
-                TenForOne x = village(20);
+                TenForOne x = Villages.ofNames(20);
                 x.sheet(0, lane, 1);
                 x.item(0, lane, 0, values[i]);
                 Due.due("lane " + lane + ", value " + values[i], x.roll(0, 5, 0, lane), due[lane][i]);
             }
         }
-        TenForOne x = village(7);
+        TenForOne x = Villages.ofNames(7);
         x.sheet(0, 0, 1);
         x.item(0, 0, 0, 256 + 7);
         Due.due("the lowest bits are the name", x.roll(0, 5, 0, 0), 0);
     }
 
     private static void promise37Refusals() {
-        TenForOne x = village(1);
+        TenForOne x = Villages.ofNames(1);
         Due.due("nothing", x.roll(0, 5, 0, 0), NULL);
         Due.due("group 2", x.roll(2, 5, 0, 0), BAD);
         Due.due("group -1", x.roll(-1, 5, 0, 0), BAD);
@@ -148,7 +136,7 @@ final class RollsTest {
     }
 
     private static void promise37To39LeftOut() {
-        TenForOne x = village(0, 0, 0, 1, 2, 39);
+        TenForOne x = Villages.ofNames(0, 0, 0, 1, 2, 39);
         x.person(0, -2000, 0, 0, false, -1);
         x.joins(6, 1, 5);
         Due.due("nobody is on it", rollOf(x, 5), 6);
@@ -168,7 +156,7 @@ final class RollsTest {
     }
 
     private static void promise38And39AsOfThen() {
-        TenForOne x = village(0, 0, 1);
+        TenForOne x = Villages.ofNames(0, 0, 1);
         Due.due("a roll", rollOf(x, 5, 0), 2);
         x.item(3, 2, 0, 1);
         x.drop(3);

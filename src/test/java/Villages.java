@@ -73,4 +73,48 @@ final class Villages {
             x.joins(i, 0, 5);
         }
     }
+
+    /** House 0, groups 0 and 1; of each letter one who joined group 0 on day 5: r is rich, p poor. */
+    static TenForOne ofWealth(String wealth) {
+        TenForOne x = at(50, 50, 50);
+        for (char sign : wealth.toCharArray()) {
+            x.joins(x.person(0, -2000, 0, 0, sign == 'p', -1), 0, 5);
+        }
+        return x;
+    }
+
+    /** As that; then one fled on day 10, and the plea about him, with this fine, is judged. */
+    static TenForOne judged(String wealth, int fled, int fine) {
+        TenForOne x = ofWealth(wealth);
+        x.flees(fled, 10);
+        x.plea(fled, fine);
+        x.judge(41);
+        return x;
+    }
+
+    /** Checks what each of the first people owes of a plea. */
+    static void owe(String told, TenForOne x, int plea, int... due) {
+        for (int who = 0; who < due.length; who++) {
+            Due.due(told + ": owes(" + who + ", " + plea + ")", x.owes(who, plea), due[who]);
+        }
+    }
+
+    /** House 0, groups 0 and 1; people with these names, who joined group 0 on day 5. */
+    static TenForOne ofNames(int... names) {
+        TenForOne x = at(50, 50, 50);
+        for (int name : names) {
+            x.joins(x.person(0, -2000, name, 0, false, -1), 0, 5);
+        }
+        return x;
+    }
+
+    /** House 0 at this lane, and groups at these. */
+    static TenForOne at(int lane, int... groupLanes) {
+        TenForOne x = new TenForOne();
+        x.house(lane);
+        for (int groupLane : groupLanes) {
+            x.group(groupLane);
+        }
+        return x;
+    }
 }

@@ -204,8 +204,7 @@ final class WholeTest {
         came("FULL leaves it", x, 0, 0, 0, 0, 0, 0, NONE, NONE);
         x.dies(7, 0);
         Due.due("six, not ten", x.whole(1), NONE);
-        x = new TenForOne();
-        x.house(0);
+        x = Villages.at(0);
         for (int i = 0; i < 7; i++) {
             man(x, 0, true);
         }
